@@ -81,6 +81,14 @@ final class Checks {
         return x;
     }
 
+    static int checked() {
+        return checked;
+    }
+
+    static int wrong() {
+        return wrong;
+    }
+
     static void end() {
         System.out.println(checked + " checks, " + wrong + " wrong");
         if (wrong != 0 || checked == 0) {

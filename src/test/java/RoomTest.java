@@ -37,43 +37,24 @@ public final class RoomTest {
     private static void fullObjects() {
         within("full objects", () -> {
             for (int i = 0; i < 4; i++) {
-                fill();
+                State.FULL.make();
             }
         });
     }
 
-    private static ConstraintCompiler fill() {
-        ConstraintCompiler x = Checks.withInputs(1);
-        while (x.count(1) <= 57) {
-            x.expression(Checks.SAME, 0, 0, 0);
-        }
-        while (x.count(0) < 60) {
-            x.expression(Checks.PLUS, 0, 1, 0);
-        }
-        while (x.count(2) < 80) {
-            x.claim(Checks.BIT, 0, 0);
-        }
-        return x;
-    }
-
     private static void refusals() {
-        ConstraintCompiler x = fill();
         within("refused expressions", () -> {
-            for (int i = 0; i < CALLS; i++) {
-                try {
-                    x.expression(Checks.EITHER, 0, 1, 2);
-                } catch (IllegalStateException e) {
-                    continue;
-                }
-                throw new AssertionError("there was room");
+            Subject x = State.FULL.make();
+            while (x.callsLeft() > 0) {
+                x.answer("expression", Checks.EITHER, 0, 1, 2);
             }
         });
     }
 
     private static void solving() {
-        ConstraintCompiler x = fill();
         within("solving", () -> {
-            for (int i = 0; i < CALLS; i++) {
+            Subject x = State.FULL.make();
+            while (x.callsLeft() >= 4) {
                 x.solve();
                 x.broken();
                 x.value(59);
