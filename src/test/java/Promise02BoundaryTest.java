@@ -781,7 +781,8 @@ public final class Promise02BoundaryTest {
     static void promise02All512CallsMayBeExpressions() {
         Subject x = new Subject();
         for (int call = 0; call < 512; call++) {
-            Checks.due("call " + (call + 1), x.answer("expression", Checks.NUMBER, call, 0, 0), call < 60 ? call : STATE);
+            Object got = x.answer("expression", Checks.NUMBER, call, 0, 0);
+            Checks.due("call " + (call + 1), got, call < 60 ? call : STATE);
         }
     }
 
