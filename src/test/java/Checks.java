@@ -1,4 +1,3 @@
-import java.util.Arrays;
 import java.util.function.IntSupplier;
 
 /** What the tests have in common: every wrong answer is printed, and one is enough to fail. */
@@ -43,38 +42,21 @@ final class Checks {
 
     /** As refused, and the counts, among them the witness's, must stay as they were. */
     static void refusedWhole(
-            String what, ConstraintCompiler x, Class<? extends RuntimeException> want, IntSupplier call) {
-        String before = counts(x);
+            String what, Subject x, Class<? extends RuntimeException> want, IntSupplier call) {
+        String before = x.counts();
         refused(what, want, call);
-        due(what + ", counts behind it", counts(x), before);
+        due(what + ", counts behind it", x.counts(), before);
     }
 
-    static String counts(ConstraintCompiler x) {
-        int[] counts = new int[6];
-        for (int what = 0; what < counts.length; what++) {
-            counts[what] = x.count(what);
-        }
-        return Arrays.toString(counts);
-    }
-
-    /** The coefficients of a sum of a constraint for the variables 0 .. until - 1. */
-    static String row(ConstraintCompiler x, int constraint, int sum, int until) {
-        int[] row = new int[until];
-        for (int variable = 0; variable < until; variable++) {
-            row[variable] = x.coefficient(constraint, sum, variable);
-        }
-        return Arrays.toString(row);
-    }
-
-    static void rows(ConstraintCompiler x, int constraint, String a, String b, String c) {
+    static void rows(Subject x, int constraint, String a, String b, String c) {
         int until = x.count(1);
-        due("A of constraint " + constraint, row(x, constraint, 0, until), a);
-        due("B of constraint " + constraint, row(x, constraint, 1, until), b);
-        due("C of constraint " + constraint, row(x, constraint, 2, until), c);
+        due("A of constraint " + constraint, x.row(constraint, 0, until), a);
+        due("B of constraint " + constraint, x.row(constraint, 1, until), b);
+        due("C of constraint " + constraint, x.row(constraint, 2, until), c);
     }
 
-    static ConstraintCompiler withInputs(int... given) {
-        ConstraintCompiler x = new ConstraintCompiler();
+    static Subject withInputs(int... given) {
+        Subject x = new Subject();
         for (int value : given) {
             x.give(x.expression(INPUT, 0, 0, 0), value);
         }

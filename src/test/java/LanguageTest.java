@@ -50,6 +50,9 @@ public final class LanguageTest {
     private static void face() {
         Class<?> type = ConstraintCompiler.class;
         Checks.due("modifiers", Modifier.toString(type.getModifiers()), "public final");
+        Checks.due("what it extends", type.getSuperclass(), Object.class);
+        Checks.due("interfaces", type.getInterfaces().length, 0);
+        Checks.due("package", type.getPackageName(), "");
         Set<String> found = new TreeSet<>();
         for (Method method : type.getDeclaredMethods()) {
             if (!isHidden(method)) {

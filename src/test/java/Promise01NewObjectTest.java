@@ -2,8 +2,8 @@ import java.util.NoSuchElementException;
 
 public final class Promise01NewObjectTest {
     public static void main(String[] args) {
-        ConstraintCompiler x = new ConstraintCompiler();
-        Checks.due("counts of a new object", Checks.counts(x), "[0, 1, 0, 0, 0, 0]");
+        Subject x = new Subject();
+        Checks.due("counts of a new object", x.counts(), "[0, 1, 0, 0, 0, 0]");
         Checks.due("uses of the one", x.uses(0), 0);
         Checks.due("uses of a variable not made", x.uses(59), 0);
         Checks.refused("value", NoSuchElementException.class, () -> x.value(0));
@@ -20,16 +20,16 @@ public final class Promise01NewObjectTest {
     }
 
     private static void solvesWithoutAnything() {
-        ConstraintCompiler x = new ConstraintCompiler();
+        Subject x = new Subject();
         Checks.due("solve of nothing", x.solve(), 0);
-        Checks.due("counts behind it", Checks.counts(x), "[0, 1, 0, 0, 1, 1]");
+        Checks.due("counts behind it", x.counts(), "[0, 1, 0, 0, 1, 1]");
     }
 
     private static void objectsAreApart() {
-        ConstraintCompiler x = Checks.withInputs(3);
+        Subject x = Checks.withInputs(3);
         x.claim(Checks.BIT, 0, 0);
         x.solve();
         Checks.due("counts of another object",
-                Checks.counts(new ConstraintCompiler()), "[0, 1, 0, 0, 0, 0]");
+                new Subject().counts(), "[0, 1, 0, 0, 0, 0]");
     }
 }

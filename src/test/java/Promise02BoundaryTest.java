@@ -5,7 +5,10 @@ public final class Promise02BoundaryTest {
     private static final Class<IllegalArgumentException> ARGUMENT = IllegalArgumentException.class;
     private static final Class<IllegalStateException> STATE = IllegalStateException.class;
     private static final List<State> SOME = List.of(State.SOLVED, State.FULL_AND_SOLVED);
-    private static final int[] ANYTHING = {Integer.MIN_VALUE, -1, 0, 6, 60, Integer.MAX_VALUE};
+    /** Expressions 1, 7 and 10 are made, 11, the one that is being made, and those behind it are not. */
+    private static final int[] ANYTHING = {
+        Integer.MIN_VALUE, -97, -1, 0, 1, 7, 10, 11, 60, 77, 97, Integer.MAX_VALUE
+    };
 
     public static void main(String[] args) {
         Cases.run(Promise02BoundaryTest.class);
@@ -463,35 +466,69 @@ public final class Promise02BoundaryTest {
 
     // "What a kind has no use for may be anything."
 
+    /** The sum itself is seen in the claim's coefficients and in the value. */
+    private static Answers answersBehind(int kind, int a, int b, int c) {
+        return Answers.of(State.UNSOLVED.and("and one expression more, claimed and solved", x -> {
+            x.bit(x.expression(kind, a, b, c));
+            x.solve();
+        }));
+    }
+
+    private static void madeAlike(Answers want, int kind, int a, int b, int c) {
+        Checks.due("what expression " + kind + " " + a + " " + b + " " + c + " is",
+                want.partsFrom(answersBehind(kind, a, b, c)), "nowhere");
+    }
+
     static void promise02NumberHasNoUseForBAndC() {
+        Answers want = answersBehind(Checks.NUMBER, 5, 0, 0);
         for (int any : ANYTHING) {
-            Cases.due(State.EMPTY, 0, "expression", Checks.NUMBER, 5, any, any);
+            madeAlike(want, Checks.NUMBER, 5, any, 0);
+            madeAlike(want, Checks.NUMBER, 5, 0, any);
+            madeAlike(want, Checks.NUMBER, 5, any, any);
         }
     }
 
     static void promise02InputHasNoUseForAAndBAndC() {
+        Answers want = answersBehind(Checks.INPUT, 0, 0, 0);
         for (int any : ANYTHING) {
-            Cases.due(State.EMPTY, 0, "expression", Checks.INPUT, any, any, any);
+            madeAlike(want, Checks.INPUT, any, 0, 0);
+            madeAlike(want, Checks.INPUT, 0, any, 0);
+            madeAlike(want, Checks.INPUT, 0, 0, any);
+            madeAlike(want, Checks.INPUT, any, any, any);
         }
     }
 
     static void promise02Kinds2To6HaveNoUseForC() {
-        for (int any : ANYTHING) {
-            for (int kind = Checks.PLUS; kind <= Checks.SAME; kind++) {
-                Cases.due(State.UNSOLVED, 11, "expression", kind, 0, 1, any);
+        for (int kind = Checks.PLUS; kind <= Checks.SAME; kind++) {
+            Answers want = answersBehind(kind, 0, 1, 0);
+            for (int any : ANYTHING) {
+                madeAlike(want, kind, 0, 1, any);
             }
         }
     }
 
     static void promise02NotHasNoUseForBAndC() {
+        Answers want = answersBehind(Checks.NOT, 1, 0, 0);
         for (int any : ANYTHING) {
-            Cases.due(State.UNSOLVED, 11, "expression", Checks.NOT, 0, any, any);
+            madeAlike(want, Checks.NOT, 1, any, 0);
+            madeAlike(want, Checks.NOT, 1, 0, any);
+            madeAlike(want, Checks.NOT, 1, any, any);
         }
     }
 
     static void promise02PowerHasNoUseForC() {
+        for (int b = 1; b <= 5; b++) {
+            Answers want = answersBehind(Checks.POWER, 0, b, 0);
+            for (int any : ANYTHING) {
+                madeAlike(want, Checks.POWER, 0, b, any);
+            }
+        }
+    }
+
+    static void promise02WhatHasNoUseMayBeAnythingInAnEmptyObject() {
         for (int any : ANYTHING) {
-            Cases.due(State.UNSOLVED, 11, "expression", Checks.POWER, 0, 5, any);
+            Cases.due(State.EMPTY, 0, "expression", Checks.NUMBER, 5, any, any);
+            Cases.due(State.EMPTY, 0, "expression", Checks.INPUT, any, any, any);
         }
     }
 

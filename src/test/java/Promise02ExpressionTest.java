@@ -29,14 +29,14 @@ public final class Promise02ExpressionTest {
     }
 
     private static void numbersAreRemainders() {
-        ConstraintCompiler x = new ConstraintCompiler();
+        Subject x = new Subject();
         int[] numbers = {0, 1, 96, 97, 98, -1, -96, -97, -98, Integer.MAX_VALUE, Integer.MIN_VALUE};
         int[] due = {0, 1, 96, 0, 1, 96, 1, 0, 96, 65, 31};
         for (int i = 0; i < numbers.length; i++) {
             Checks.due("number " + numbers[i], x.expression(Checks.NUMBER, numbers[i], 0, 0), i);
             Checks.due("terms of it", x.terms(i), due[i] == 0 ? 0 : 1);
         }
-        Checks.due("counts", Checks.counts(x), "[11, 1, 0, 0, 0, 0]");
+        Checks.due("counts", x.counts(), "[11, 1, 0, 0, 0, 0]");
         x.solve();
         for (int i = 0; i < numbers.length; i++) {
             Checks.due("value of number " + numbers[i], x.value(i), due[i]);
@@ -44,10 +44,10 @@ public final class Promise02ExpressionTest {
     }
 
     private static void inputsAreVariables() {
-        ConstraintCompiler x = new ConstraintCompiler();
+        Subject x = new Subject();
         Checks.due("first input", x.expression(Checks.INPUT, 0, 0, 0), 0);
         Checks.due("second input", x.expression(Checks.INPUT, 0, 0, 0), 1);
-        Checks.due("counts", Checks.counts(x), "[2, 3, 0, 2, 0, 0]");
+        Checks.due("counts", x.counts(), "[2, 3, 0, 2, 0, 0]");
         x.claim(Checks.BIT, 0, 0);
         x.claim(Checks.BIT, 1, 0);
         Checks.rows(x, 0, "[0, 1, 0]", "[1, 96, 0]", "[0, 0, 0]");
@@ -55,13 +55,13 @@ public final class Promise02ExpressionTest {
     }
 
     private static void plusAndMinus() {
-        ConstraintCompiler x = Checks.withInputs(90, 20);
+        Subject x = Checks.withInputs(90, 20);
         Checks.due("plus", x.expression(Checks.PLUS, 0, 1, 0), 2);
         Checks.due("minus", x.expression(Checks.MINUS, 1, 0, 0), 3);
         Checks.due("plus of itself", x.expression(Checks.PLUS, 2, 2, 0), 4);
         Checks.due("minus of itself", x.expression(Checks.MINUS, 2, 2, 0), 5);
         Checks.due("sum of plus and minus", x.expression(Checks.PLUS, 2, 3, 0), 6);
-        Checks.due("counts", Checks.counts(x), "[7, 3, 0, 2, 0, 0]");
+        Checks.due("counts", x.counts(), "[7, 3, 0, 2, 0, 0]");
         x.solve();
         int[] values = {90, 20, 13, 27, 26, 0, 40};
         int[] terms = {1, 1, 2, 2, 2, 0, 1};
@@ -76,10 +76,10 @@ public final class Promise02ExpressionTest {
     }
 
     private static void timesMakesAConstraint() {
-        ConstraintCompiler x = Checks.withInputs(12, 13);
+        Subject x = Checks.withInputs(12, 13);
         x.expression(Checks.PLUS, 0, 1, 0);
         Checks.due("times", x.expression(Checks.TIMES, 2, 1, 0), 3);
-        Checks.due("counts", Checks.counts(x), "[4, 4, 1, 2, 0, 0]");
+        Checks.due("counts", x.counts(), "[4, 4, 1, 2, 0, 0]");
         Checks.rows(x, 0, "[0, 1, 1, 0]", "[0, 0, 1, 0]", "[0, 0, 0, 1]");
         Checks.due("terms of a product", x.terms(3), 1);
         x.solve();
@@ -89,13 +89,13 @@ public final class Promise02ExpressionTest {
     }
 
     private static void timesOfConstants() {
-        ConstraintCompiler x = Checks.withInputs(12);
+        Subject x = Checks.withInputs(12);
         x.expression(Checks.NUMBER, 50, 0, 0);
         x.expression(Checks.PLUS, 0, 1, 0);
         Checks.due("constant first", x.expression(Checks.TIMES, 1, 2, 0), 3);
         Checks.due("constant second", x.expression(Checks.TIMES, 2, 1, 0), 4);
         Checks.due("both constant", x.expression(Checks.TIMES, 1, 1, 0), 5);
-        Checks.due("counts", Checks.counts(x), "[6, 2, 0, 1, 0, 0]");
+        Checks.due("counts", x.counts(), "[6, 2, 0, 1, 0, 0]");
         for (int i = 3; i <= 5; i++) {
             x.claim(Checks.EQUAL, i, 0);
         }
@@ -106,7 +106,7 @@ public final class Promise02ExpressionTest {
 
     /** The sum says what is constant, not the kind: 0 is constant, and x + 5 - x is too. */
     private static void timesOfAConstantThatIsHidden() {
-        ConstraintCompiler x = Checks.withInputs(12);
+        Subject x = Checks.withInputs(12);
         x.expression(Checks.NUMBER, 5, 0, 0);
         x.expression(Checks.PLUS, 0, 1, 0);
         x.expression(Checks.MINUS, 2, 0, 0);
@@ -114,7 +114,7 @@ public final class Promise02ExpressionTest {
         x.expression(Checks.TIMES, 0, 3, 0);
         x.expression(Checks.TIMES, 0, 4, 0);
         x.expression(Checks.TIMES, 4, 0, 0);
-        Checks.due("counts", Checks.counts(x), "[8, 2, 0, 1, 0, 0]");
+        Checks.due("counts", x.counts(), "[8, 2, 0, 1, 0, 0]");
         Checks.due("terms of 5 x", x.terms(5), 1);
         Checks.due("terms of x 0", x.terms(6), 0);
         Checks.due("terms of 0 x", x.terms(7), 0);
@@ -124,9 +124,9 @@ public final class Promise02ExpressionTest {
     }
 
     private static void share() {
-        ConstraintCompiler x = Checks.withInputs(10, 3);
+        Subject x = Checks.withInputs(10, 3);
         Checks.due("share", x.expression(Checks.SHARE, 0, 1, 0), 2);
-        Checks.due("counts", Checks.counts(x), "[3, 5, 2, 2, 0, 0]");
+        Checks.due("counts", x.counts(), "[3, 5, 2, 2, 0, 0]");
         Checks.rows(x, 0, "[0, 0, 1, 0, 0]", "[0, 0, 0, 1, 0]", "[1, 0, 0, 0, 0]");
         Checks.rows(x, 1, "[0, 1, 0, 0, 0]", "[0, 0, 0, 1, 0]", "[0, 0, 0, 0, 1]");
         Checks.due("solve", x.solve(), 0);
@@ -135,11 +135,11 @@ public final class Promise02ExpressionTest {
     }
 
     private static void shareOfConstants() {
-        ConstraintCompiler x = new ConstraintCompiler();
+        Subject x = new Subject();
         x.expression(Checks.NUMBER, 1, 0, 0);
         x.expression(Checks.NUMBER, 2, 0, 0);
         Checks.due("share of constants", x.expression(Checks.SHARE, 0, 1, 0), 2);
-        Checks.due("counts", Checks.counts(x), "[3, 3, 2, 0, 0, 0]");
+        Checks.due("counts", x.counts(), "[3, 3, 2, 0, 0, 0]");
         Checks.rows(x, 0, "[2, 0, 0]", "[0, 1, 0]", "[1, 0, 0]");
         Checks.rows(x, 1, "[1, 0, 0]", "[0, 1, 0]", "[0, 0, 1]");
         Checks.due("solve", x.solve(), 0);
@@ -150,9 +150,9 @@ public final class Promise02ExpressionTest {
     }
 
     private static void same() {
-        ConstraintCompiler x = Checks.withInputs(10, 7);
+        Subject x = Checks.withInputs(10, 7);
         Checks.due("same", x.expression(Checks.SAME, 0, 1, 0), 2);
-        Checks.due("counts", Checks.counts(x), "[3, 5, 2, 2, 0, 0]");
+        Checks.due("counts", x.counts(), "[3, 5, 2, 2, 0, 0]");
         Checks.rows(x, 0, "[0, 1, 96, 0, 0]", "[0, 0, 0, 1, 0]", "[1, 0, 0, 0, 96]");
         Checks.rows(x, 1, "[0, 1, 96, 0, 0]", "[0, 0, 0, 0, 1]", "[0, 0, 0, 0, 0]");
         Checks.due("solve", x.solve(), 0);
@@ -165,20 +165,20 @@ public final class Promise02ExpressionTest {
     }
 
     private static void sameOfConstants() {
-        ConstraintCompiler x = new ConstraintCompiler();
+        Subject x = new Subject();
         x.expression(Checks.NUMBER, 4, 0, 0);
         x.expression(Checks.NUMBER, 101, 0, 0);
         Checks.due("same of constants", x.expression(Checks.SAME, 0, 1, 0), 2);
-        Checks.due("counts", Checks.counts(x), "[3, 3, 2, 0, 0, 0]");
+        Checks.due("counts", x.counts(), "[3, 3, 2, 0, 0, 0]");
         Checks.rows(x, 0, "[0, 0, 0]", "[0, 1, 0]", "[1, 0, 96]");
         Checks.due("solve", x.solve(), 0);
         Checks.due("4 is 101", x.value(2), 1);
     }
 
     private static void either() {
-        ConstraintCompiler x = Checks.withInputs(30, 50, 1);
+        Subject x = Checks.withInputs(30, 50, 1);
         Checks.due("either", x.expression(Checks.EITHER, 0, 1, 2), 3);
-        Checks.due("counts", Checks.counts(x), "[4, 5, 1, 3, 0, 0]");
+        Checks.due("counts", x.counts(), "[4, 5, 1, 3, 0, 0]");
         Checks.rows(x, 0, "[0, 0, 0, 1, 0]", "[0, 1, 96, 0, 0]", "[0, 0, 0, 0, 1]");
         Checks.due("terms", x.terms(3), 2);
         x.solve();
@@ -192,13 +192,13 @@ public final class Promise02ExpressionTest {
     }
 
     private static void eitherOfConstants() {
-        ConstraintCompiler x = Checks.withInputs(30, 50);
+        Subject x = Checks.withInputs(30, 50);
         x.expression(Checks.NUMBER, 1, 0, 0);
         x.expression(Checks.NUMBER, 7, 0, 0);
         x.expression(Checks.EITHER, 0, 1, 2);
         x.expression(Checks.EITHER, 2, 3, 0);
         x.expression(Checks.EITHER, 0, 0, 1);
-        Checks.due("counts", Checks.counts(x), "[7, 3, 0, 2, 0, 0]");
+        Checks.due("counts", x.counts(), "[7, 3, 0, 2, 0, 0]");
         Checks.due("terms, c constant", x.terms(4), 1);
         Checks.due("terms, a - b constant", x.terms(5), 2);
         Checks.due("terms, a - b 0", x.terms(6), 1);
@@ -209,10 +209,10 @@ public final class Promise02ExpressionTest {
     }
 
     private static void not() {
-        ConstraintCompiler x = Checks.withInputs(30);
+        Subject x = Checks.withInputs(30);
         Checks.due("not", x.expression(Checks.NOT, 0, 0, 0), 1);
         Checks.due("not not", x.expression(Checks.NOT, 1, 0, 0), 2);
-        Checks.due("counts", Checks.counts(x), "[3, 2, 0, 1, 0, 0]");
+        Checks.due("counts", x.counts(), "[3, 2, 0, 1, 0, 0]");
         x.claim(Checks.EQUAL, 1, 2);
         Checks.rows(x, 0, "[1, 95]", "[1, 0]", "[0, 0]");
         x.solve();
@@ -223,7 +223,7 @@ public final class Promise02ExpressionTest {
     private static void powers() {
         int[] due = {3, 9, 27, 81, 49};
         for (int b = 1; b <= 5; b++) {
-            ConstraintCompiler x = Checks.withInputs(3);
+            Subject x = Checks.withInputs(3);
             Checks.due("power " + b, x.expression(Checks.POWER, 0, b, 0), 1);
             Checks.due("variables of power " + b, x.count(1), 1 + b);
             Checks.due("constraints of power " + b, x.count(2), b - 1);
@@ -231,23 +231,23 @@ public final class Promise02ExpressionTest {
             Checks.due("3 to the power " + b, x.value(1), due[b - 1]);
             Checks.due("terms", x.terms(1), 1);
         }
-        ConstraintCompiler x = Checks.withInputs(3);
+        Subject x = Checks.withInputs(3);
         x.expression(Checks.POWER, 0, 3, 0);
         Checks.rows(x, 0, "[0, 1, 0, 0]", "[0, 1, 0, 0]", "[0, 0, 1, 0]");
         Checks.rows(x, 1, "[0, 0, 1, 0]", "[0, 1, 0, 0]", "[0, 0, 0, 1]");
     }
 
     private static void powerOfAConstant() {
-        ConstraintCompiler x = new ConstraintCompiler();
+        Subject x = new Subject();
         x.expression(Checks.NUMBER, 3, 0, 0);
         Checks.due("power of a constant", x.expression(Checks.POWER, 0, 5, 0), 1);
-        Checks.due("counts", Checks.counts(x), "[2, 1, 0, 0, 0, 0]");
+        Checks.due("counts", x.counts(), "[2, 1, 0, 0, 0, 0]");
         x.solve();
         Checks.due("3 to the power 5", x.value(1), 49);
     }
 
     private static void sumsKeepWhatTheyWere() {
-        ConstraintCompiler x = Checks.withInputs(3, 5);
+        Subject x = Checks.withInputs(3, 5);
         x.expression(Checks.POWER, 0, 1, 0);
         x.claim(Checks.EQUAL, 0, 1);
         for (int kind = Checks.PLUS; kind <= Checks.POWER; kind++) {
@@ -258,13 +258,13 @@ public final class Promise02ExpressionTest {
         Checks.due("value 0", x.value(0), 3);
         Checks.due("value 1", x.value(1), 5);
         Checks.due("value 2", x.value(2), 3);
-        Checks.due("A", Checks.row(x, 0, 0, 4), "[0, 1, 96, 0]");
-        Checks.due("B", Checks.row(x, 0, 1, 4), "[1, 0, 0, 0]");
-        Checks.due("C", Checks.row(x, 0, 2, 4), "[0, 0, 0, 0]");
+        Checks.due("A", x.row(0, 0, 4), "[0, 1, 96, 0]");
+        Checks.due("B", x.row(0, 1, 4), "[1, 0, 0, 0]");
+        Checks.due("C", x.row(0, 2, 4), "[0, 0, 0, 0]");
     }
 
     private static void wrongArguments() {
-        ConstraintCompiler x = Checks.withInputs(3, 5);
+        Subject x = Checks.withInputs(3, 5);
         for (int kind : new int[] {-1, 10, Integer.MIN_VALUE, Integer.MAX_VALUE}) {
             wrong(x, kind, 0, 0, 0);
         }
@@ -283,10 +283,10 @@ public final class Promise02ExpressionTest {
             Checks.refused("power " + power, ARGUMENT, () -> x.expression(Checks.POWER, 0, power, 0));
         }
         Checks.due("the next expression", x.expression(Checks.NUMBER, 0, 0, 0), 2);
-        Checks.due("counts", Checks.counts(x), "[3, 3, 0, 2, 0, 0]");
+        Checks.due("counts", x.counts(), "[3, 3, 0, 2, 0, 0]");
     }
 
-    private static void wrong(ConstraintCompiler x, int kind, int a, int b, int c) {
+    private static void wrong(Subject x, int kind, int a, int b, int c) {
         Checks.refused("expression " + kind + " " + a + " " + b + " " + c, ARGUMENT,
                 () -> x.expression(kind, a, b, c));
     }
@@ -294,7 +294,7 @@ public final class Promise02ExpressionTest {
     private static void whatHasNoUseMayBeAnything() {
         int[] anything = {-1, 77, Integer.MIN_VALUE, Integer.MAX_VALUE};
         for (int any : anything) {
-            ConstraintCompiler x = Checks.withInputs(3, 5);
+            Subject x = Checks.withInputs(3, 5);
             Checks.due("number", x.expression(Checks.NUMBER, 1, any, any), 2);
             Checks.due("input", x.expression(Checks.INPUT, any, any, any), 3);
             for (int kind = Checks.PLUS; kind <= Checks.SAME; kind++) {
@@ -306,7 +306,7 @@ public final class Promise02ExpressionTest {
     }
 
     private static void noRoomForExpressions() {
-        ConstraintCompiler x = Checks.withInputs(3);
+        Subject x = Checks.withInputs(3);
         for (int i = 1; i < 60; i++) {
             Checks.due("expression", x.expression(Checks.NUMBER, i, 0, 0), i);
         }
@@ -321,8 +321,8 @@ public final class Promise02ExpressionTest {
     }
 
     /** Variables 1 .. used are made, by powers of the input, so that expressions are spared. */
-    private static ConstraintCompiler withVariables(int used) {
-        ConstraintCompiler x = Checks.withInputs(3);
+    private static Subject withVariables(int used) {
+        Subject x = Checks.withInputs(3);
         while (x.count(1) - 1 < used) {
             int missing = used - x.count(1) + 1;
             x.expression(Checks.POWER, 0, 1 + Math.min(4, missing), 0);
@@ -331,7 +331,7 @@ public final class Promise02ExpressionTest {
     }
 
     private static void noRoomForVariables() {
-        ConstraintCompiler full = withVariables(59);
+        Subject full = withVariables(59);
         Checks.due("variables", full.count(1), 60);
         for (int kind : new int[] {Checks.INPUT, Checks.TIMES, Checks.SHARE, Checks.SAME, Checks.POWER}) {
             Checks.refusedWhole("kind " + kind + " without a variable left", full, STATE,
@@ -340,7 +340,7 @@ public final class Promise02ExpressionTest {
         Checks.refusedWhole("either without a variable left", full, STATE,
                 () -> full.expression(Checks.EITHER, 1, 2, 3));
 
-        ConstraintCompiler one = withVariables(58);
+        Subject one = withVariables(58);
         Checks.refusedWhole("share with one left", one, STATE, () -> one.expression(Checks.SHARE, 0, 0, 0));
         Checks.refusedWhole("same with one left", one, STATE, () -> one.expression(Checks.SAME, 0, 0, 0));
         Checks.refusedWhole("power 3 with one left", one, STATE, () -> one.expression(Checks.POWER, 0, 3, 0));
@@ -348,15 +348,15 @@ public final class Promise02ExpressionTest {
         Checks.due("power 2 with one left", one.expression(Checks.POWER, 0, 2, 0), next);
         Checks.due("variables", one.count(1), 60);
 
-        ConstraintCompiler two = withVariables(57);
+        Subject two = withVariables(57);
         next = two.count(0);
         Checks.due("share with two left", two.expression(Checks.SHARE, 0, 0, 0), next);
-        ConstraintCompiler four = withVariables(55);
+        Subject four = withVariables(55);
         next = four.count(0);
         Checks.due("power 5 with four left", four.expression(Checks.POWER, 0, 5, 0), next);
-        ConstraintCompiler three = withVariables(56);
+        Subject three = withVariables(56);
         Checks.refusedWhole("power 5 with three left", three, STATE, () -> three.expression(Checks.POWER, 0, 5, 0));
-        ConstraintCompiler last = withVariables(58);
+        Subject last = withVariables(58);
         next = last.count(0);
         Checks.due("the last input", last.expression(Checks.INPUT, 0, 0, 0), next);
         last.give(next, 8);
@@ -365,8 +365,8 @@ public final class Promise02ExpressionTest {
         Checks.due("its variable", last.tamper(59, 9), 8);
     }
 
-    private static ConstraintCompiler withConstraints(int used) {
-        ConstraintCompiler x = Checks.withInputs(3, 4, 1);
+    private static Subject withConstraints(int used) {
+        Subject x = Checks.withInputs(3, 4, 1);
         while (x.count(2) < used) {
             x.claim(Checks.BIT, 0, 0);
         }
@@ -374,28 +374,28 @@ public final class Promise02ExpressionTest {
     }
 
     private static void noRoomForConstraints() {
-        ConstraintCompiler full = withConstraints(80);
+        Subject full = withConstraints(80);
         for (int kind : new int[] {Checks.TIMES, Checks.SHARE, Checks.SAME, Checks.EITHER, Checks.POWER}) {
             Checks.refusedWhole("kind " + kind + " without a constraint left", full, STATE,
                     () -> full.expression(kind, 0, 2, 1));
         }
         Checks.due("an input needs none", full.expression(Checks.INPUT, 0, 0, 0), 3);
 
-        ConstraintCompiler one = withConstraints(79);
+        Subject one = withConstraints(79);
         Checks.refusedWhole("share with one left", one, STATE, () -> one.expression(Checks.SHARE, 0, 1, 0));
         Checks.refusedWhole("same with one left", one, STATE, () -> one.expression(Checks.SAME, 0, 1, 0));
         Checks.refusedWhole("power 3 with one left", one, STATE, () -> one.expression(Checks.POWER, 0, 3, 0));
         Checks.due("times with one left", one.expression(Checks.TIMES, 0, 1, 0), 3);
         Checks.due("constraints", one.count(2), 80);
-        ConstraintCompiler two = withConstraints(78);
+        Subject two = withConstraints(78);
         Checks.due("same with two left", two.expression(Checks.SAME, 0, 1, 0), 3);
         Checks.due("constraints", two.count(2), 80);
-        ConstraintCompiler last = withConstraints(79);
+        Subject last = withConstraints(79);
         Checks.due("either with one left", last.expression(Checks.EITHER, 0, 1, 2), 3);
     }
 
     private static void roomForThoseThatNeedNone() {
-        ConstraintCompiler x = withVariables(59);
+        Subject x = withVariables(59);
         int five = x.expression(Checks.NUMBER, 5, 0, 0);
         int next = five + 1;
         while (x.count(2) < 80) {

@@ -99,9 +99,18 @@ public final class Promise03BoundaryTest {
 
     /** "BIT a" names no second expression. */
     static void promise03BitHasNoUseForB() {
-        for (int any : new int[] {Integer.MIN_VALUE, -1, 10, 11, 60, Integer.MAX_VALUE}) {
+        Answers want = Answers.of(bitWith(0));
+        for (int any : new int[] {Integer.MIN_VALUE, -1, 1, 10, 11, 60, Integer.MAX_VALUE}) {
             Cases.due(State.UNSOLVED, 10, "claim", Checks.BIT, 0, any);
+            Checks.due("a bit with " + any + " in b", want.partsFrom(Answers.of(bitWith(any))), "nowhere");
         }
+    }
+
+    private static State bitWith(int b) {
+        return State.UNSOLVED.and("with a bit, solved", x -> {
+            x.claim(Checks.BIT, 0, b);
+            x.solve();
+        });
     }
 
     // "80 constraints are there"

@@ -8,10 +8,10 @@ public final class Promise03ClaimTest {
     }
 
     private static void constraintsOfClaims() {
-        ConstraintCompiler x = Checks.withInputs(4, 9);
+        Subject x = Checks.withInputs(4, 9);
         Checks.due("equal", x.claim(Checks.EQUAL, 0, 1), 0);
         Checks.due("bit", x.claim(Checks.BIT, 1, 0), 1);
-        Checks.due("counts", Checks.counts(x), "[2, 3, 2, 2, 0, 0]");
+        Checks.due("counts", x.counts(), "[2, 3, 2, 2, 0, 0]");
         Checks.rows(x, 0, "[0, 1, 96]", "[1, 0, 0]", "[0, 0, 0]");
         Checks.rows(x, 1, "[0, 0, 1]", "[1, 0, 96]", "[0, 0, 0]");
         int[][] runs = {{4, 9, 2}, {9, 9, 1}, {0, 0, 0}, {1, 1, 0}, {0, 1, 1}, {2, 2, 1}, {98, 1, 0}};
@@ -23,7 +23,7 @@ public final class Promise03ClaimTest {
     }
 
     private static void claimsOfConstants() {
-        ConstraintCompiler x = new ConstraintCompiler();
+        Subject x = new Subject();
         x.expression(Checks.NUMBER, 1, 0, 0);
         x.expression(Checks.NUMBER, 2, 0, 0);
         x.claim(Checks.EQUAL, 0, 0);
@@ -39,7 +39,7 @@ public final class Promise03ClaimTest {
     }
 
     private static void wrongArguments() {
-        ConstraintCompiler x = Checks.withInputs(4);
+        Subject x = Checks.withInputs(4);
         for (int kind : new int[] {-1, 2, Integer.MIN_VALUE, Integer.MAX_VALUE}) {
             wrong(x, kind, 0, 0);
         }
@@ -51,13 +51,13 @@ public final class Promise03ClaimTest {
         }
     }
 
-    private static void wrong(ConstraintCompiler x, int kind, int a, int b) {
+    private static void wrong(Subject x, int kind, int a, int b) {
         Checks.refusedWhole("claim " + kind + " " + a + " " + b, x, IllegalArgumentException.class,
                 () -> x.claim(kind, a, b));
     }
 
     private static void noRoom() {
-        ConstraintCompiler x = Checks.withInputs(4);
+        Subject x = Checks.withInputs(4);
         for (int i = 0; i < 80; i++) {
             Checks.due("claim", x.claim(i % 2, 0, 0), i);
         }

@@ -10,7 +10,7 @@ public final class Promise04GiveTest {
     }
 
     private static void answersTheOneBefore() {
-        ConstraintCompiler x = new ConstraintCompiler();
+        Subject x = new Subject();
         x.expression(Checks.INPUT, 0, 0, 0);
         int[] given = {5, 96, 97, 98, -1, -97, -98, Integer.MAX_VALUE, Integer.MIN_VALUE, 0};
         int[] kept = {5, 96, 0, 1, 96, 0, 96, 65, 31, 0};
@@ -24,7 +24,7 @@ public final class Promise04GiveTest {
     }
 
     private static void everyInputHasItsOwn() {
-        ConstraintCompiler x = new ConstraintCompiler();
+        Subject x = new Subject();
         x.expression(Checks.INPUT, 0, 0, 0);
         x.expression(Checks.NUMBER, 7, 0, 0);
         x.expression(Checks.TIMES, 0, 0, 0);
@@ -39,7 +39,7 @@ public final class Promise04GiveTest {
     }
 
     private static void doesNotChangeTheWitness() {
-        ConstraintCompiler x = Checks.withInputs(6);
+        Subject x = Checks.withInputs(6);
         x.claim(Checks.BIT, 0, 0);
         x.solve();
         x.give(0, 1);
@@ -50,7 +50,7 @@ public final class Promise04GiveTest {
     }
 
     private static void wrongArguments() {
-        ConstraintCompiler x = Checks.withInputs(6, 7);
+        Subject x = Checks.withInputs(6, 7);
         x.expression(Checks.NUMBER, 1, 0, 0);
         for (int kind = Checks.PLUS; kind <= Checks.POWER; kind++) {
             x.expression(kind, 0, 1, 0);

@@ -11,7 +11,7 @@ public final class Promise05SolveTest {
     }
 
     private static void inverses() {
-        ConstraintCompiler x = Checks.withInputs(0, 1);
+        Subject x = Checks.withInputs(0, 1);
         x.expression(Checks.NUMBER, 0, 0, 0);
         x.expression(Checks.SAME, 0, 2, 0);
         x.expression(Checks.SHARE, 1, 1, 0);
@@ -25,7 +25,7 @@ public final class Promise05SolveTest {
     }
 
     private static void answersHowManyDoNotHold() {
-        ConstraintCompiler x = Checks.withInputs(3, 4);
+        Subject x = Checks.withInputs(3, 4);
         x.expression(Checks.TIMES, 0, 1, 0);
         x.claim(Checks.EQUAL, 0, 1);
         x.claim(Checks.BIT, 0, 0);
@@ -38,7 +38,7 @@ public final class Promise05SolveTest {
     }
 
     private static void failureLeavesTheWitness() {
-        ConstraintCompiler x = Checks.withInputs(8, 2);
+        Subject x = Checks.withInputs(8, 2);
         x.expression(Checks.SHARE, 0, 1, 0);
         x.claim(Checks.BIT, 0, 0);
         Checks.due("solve", x.solve(), 1);
@@ -59,7 +59,7 @@ public final class Promise05SolveTest {
     }
 
     private static void failureWithoutAWitness() {
-        ConstraintCompiler x = Checks.withInputs(8, 0);
+        Subject x = Checks.withInputs(8, 0);
         x.expression(Checks.SHARE, 0, 1, 0);
         Checks.refusedWhole("solve", x, ArithmeticException.class, x::solve);
         Checks.refused("value", IllegalStateException.class, () -> x.value(0));
@@ -70,7 +70,7 @@ public final class Promise05SolveTest {
     }
 
     private static void failureOfALaterVariable() {
-        ConstraintCompiler x = Checks.withInputs(5, 7);
+        Subject x = Checks.withInputs(5, 7);
         x.expression(Checks.TIMES, 0, 1, 0);
         x.expression(Checks.NUMBER, 35, 0, 0);
         x.expression(Checks.MINUS, 2, 3, 0);
@@ -86,19 +86,19 @@ public final class Promise05SolveTest {
     }
 
     private static void takesInWhatWasMade() {
-        ConstraintCompiler x = Checks.withInputs(5);
+        Subject x = Checks.withInputs(5);
         x.solve();
         x.expression(Checks.TIMES, 0, 0, 0);
         x.claim(Checks.BIT, 1, 0);
-        Checks.due("counts", Checks.counts(x), "[2, 3, 2, 1, 1, 2]");
+        Checks.due("counts", x.counts(), "[2, 3, 2, 1, 1, 2]");
         Checks.due("broken of the old witness", x.broken(), 0);
         Checks.due("solve", x.solve(), 1);
-        Checks.due("counts", Checks.counts(x), "[2, 3, 2, 1, 1, 3]");
+        Checks.due("counts", x.counts(), "[2, 3, 2, 1, 1, 3]");
         Checks.due("square", x.value(1), 25);
     }
 
     private static void undoesTampering() {
-        ConstraintCompiler x = Checks.withInputs(5);
+        Subject x = Checks.withInputs(5);
         x.expression(Checks.TIMES, 0, 0, 0);
         x.solve();
         x.tamper(1, 6);

@@ -130,6 +130,25 @@ public final class Promise06BoundaryTest {
         Cases.due(BEHIND, 7, "value", 7);
     }
 
+    /** Not the number of an expression counts, but the variables that it has. */
+    static void promise06EveryExpressionOfOldVariablesIsAllowed() {
+        Subject x = new Subject();
+        x.input(3);
+        x.input(4);
+        x.solve();
+        for (int made = 2; made < 60; made++) {
+            x.plus(made - 2, made - 1);
+        }
+        int last = 3;
+        int next = 4;
+        for (int made = 0; made < 60; made++) {
+            Checks.due("value " + made, x.value(made), last);
+            int sum = (last + next) % 97;
+            last = next;
+            next = sum;
+        }
+    }
+
     static void promise06SameBehindTheWitnessIsRefused() {
         Cases.refused(BEHIND, STATE, "value", 8);
     }

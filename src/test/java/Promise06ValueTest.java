@@ -9,7 +9,7 @@ public final class Promise06ValueTest {
     }
 
     private static void valuesOfSums() {
-        ConstraintCompiler x = Checks.withInputs(96, 95);
+        Subject x = Checks.withInputs(96, 95);
         x.expression(Checks.NUMBER, 96, 0, 0);
         x.expression(Checks.PLUS, 0, 1, 0);
         x.expression(Checks.PLUS, 3, 2, 0);
@@ -27,7 +27,7 @@ public final class Promise06ValueTest {
 
     /** Old variables alone are enough; a variable whose coefficient is 0 is none of the sum's. */
     private static void madeBehindTheWitness() {
-        ConstraintCompiler x = Checks.withInputs(3);
+        Subject x = Checks.withInputs(3);
         x.solve();
         x.expression(Checks.PLUS, 0, 0, 0);
         x.expression(Checks.NUMBER, 9, 0, 0);
@@ -47,7 +47,7 @@ public final class Promise06ValueTest {
     }
 
     private static void missingGoesFirst() {
-        ConstraintCompiler x = Checks.withInputs(3);
+        Subject x = Checks.withInputs(3);
         for (int missing : new int[] {-1, 1, 60, Integer.MIN_VALUE, Integer.MAX_VALUE}) {
             Checks.refused("value of missing " + missing, NoSuchElementException.class, () -> x.value(missing));
         }

@@ -7,7 +7,7 @@ public final class Promise07TamperTest {
     }
 
     private static void answersWhatItWas() {
-        ConstraintCompiler x = Checks.withInputs(3);
+        Subject x = Checks.withInputs(3);
         x.solve();
         int[] values = {5, 96, 97, 98, -1, -97, -98, Integer.MAX_VALUE, Integer.MIN_VALUE, 0};
         int[] kept = {5, 96, 0, 1, 96, 0, 96, 65, 31, 0};
@@ -20,7 +20,7 @@ public final class Promise07TamperTest {
     }
 
     private static void changesThatVariableAlone() {
-        ConstraintCompiler x = Checks.withInputs(3, 4);
+        Subject x = Checks.withInputs(3, 4);
         x.expression(Checks.TIMES, 0, 1, 0);
         x.solve();
         x.tamper(2, 5);
@@ -33,7 +33,7 @@ public final class Promise07TamperTest {
     }
 
     private static void wrongArguments() {
-        ConstraintCompiler x = Checks.withInputs(3);
+        Subject x = Checks.withInputs(3);
         for (int variable : new int[] {-1, 0, 1, 2, 60}) {
             Checks.refusedWhole("tamper " + variable + " without a witness", x, IllegalStateException.class,
                     () -> x.tamper(variable, 0));

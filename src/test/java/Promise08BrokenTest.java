@@ -7,7 +7,7 @@ public final class Promise08BrokenTest {
     }
 
     private static void findsWhatIsChanged() {
-        ConstraintCompiler x = Checks.withInputs(6, 2);
+        Subject x = Checks.withInputs(6, 2);
         x.expression(Checks.TIMES, 0, 1, 0);
         x.expression(Checks.SHARE, 0, 1, 0);
         x.expression(Checks.SAME, 0, 1, 0);
@@ -26,7 +26,7 @@ public final class Promise08BrokenTest {
     }
 
     private static void constraintsMadeLaterDoNotCount() {
-        ConstraintCompiler x = Checks.withInputs(6);
+        Subject x = Checks.withInputs(6);
         x.claim(Checks.BIT, 0, 0);
         x.solve();
         x.claim(Checks.BIT, 0, 0);
@@ -36,7 +36,7 @@ public final class Promise08BrokenTest {
     }
 
     private static void needsAWitness() {
-        ConstraintCompiler x = Checks.withInputs(6);
+        Subject x = Checks.withInputs(6);
         x.claim(Checks.BIT, 0, 0);
         Checks.refusedWhole("broken", x, IllegalStateException.class, x::broken);
     }

@@ -9,7 +9,7 @@ public final class Promise09FirstTest {
     }
 
     private static void theLeastOfThem() {
-        ConstraintCompiler x = Checks.withInputs(1, 1, 1);
+        Subject x = Checks.withInputs(1, 1, 1);
         for (int i = 0; i < 3; i++) {
             x.claim(Checks.BIT, i, 0);
         }
@@ -27,7 +27,7 @@ public final class Promise09FirstTest {
     }
 
     private static void constraintsMadeLaterDoNotCount() {
-        ConstraintCompiler x = Checks.withInputs(6);
+        Subject x = Checks.withInputs(6);
         x.solve();
         x.claim(Checks.BIT, 0, 0);
         Checks.refused("the only one is new", NoSuchElementException.class, x::first);
@@ -36,7 +36,7 @@ public final class Promise09FirstTest {
     }
 
     private static void needsAWitness() {
-        ConstraintCompiler x = Checks.withInputs(6);
+        Subject x = Checks.withInputs(6);
         Checks.refusedWhole("first", x, IllegalStateException.class, x::first);
         x.claim(Checks.BIT, 0, 0);
         Checks.refusedWhole("first", x, IllegalStateException.class, x::first);

@@ -8,7 +8,7 @@ public final class Promise10CoefficientTest {
     }
 
     private static void coefficients() {
-        ConstraintCompiler x = Checks.withInputs(1, 2);
+        Subject x = Checks.withInputs(1, 2);
         x.expression(Checks.NUMBER, -3, 0, 0);
         x.expression(Checks.PLUS, 0, 2, 0);
         x.expression(Checks.MINUS, 1, 0, 0);
@@ -21,7 +21,7 @@ public final class Promise10CoefficientTest {
     }
 
     private static void wrongArguments() {
-        ConstraintCompiler x = Checks.withInputs(1);
+        Subject x = Checks.withInputs(1);
         x.claim(Checks.BIT, 0, 0);
         for (int missing : new int[] {-1, 1, 80, Integer.MIN_VALUE, Integer.MAX_VALUE}) {
             Checks.refused("constraint " + missing, NoSuchElementException.class,

@@ -9,7 +9,7 @@ public final class Promise11TermsTest {
     }
 
     private static void countsCoefficients() {
-        ConstraintCompiler x = Checks.withInputs(1, 2);
+        Subject x = Checks.withInputs(1, 2);
         x.expression(Checks.NUMBER, 97, 0, 0);
         x.expression(Checks.NUMBER, 5, 0, 0);
         x.expression(Checks.PLUS, 0, 1, 0);
@@ -23,7 +23,7 @@ public final class Promise11TermsTest {
     }
 
     private static void everyVariableAtOnce() {
-        ConstraintCompiler x = Checks.withInputs(1);
+        Subject x = Checks.withInputs(1);
         int sum = x.expression(Checks.NOT, 0, 0, 0);
         while (x.count(0) < 59) {
             int square = x.expression(Checks.TIMES, 0, 0, 0);
@@ -36,7 +36,7 @@ public final class Promise11TermsTest {
     }
 
     private static void wrongArguments() {
-        ConstraintCompiler x = Checks.withInputs(1);
+        Subject x = Checks.withInputs(1);
         for (int missing : new int[] {-1, 1, 60, Integer.MIN_VALUE, Integer.MAX_VALUE}) {
             Checks.refused("terms of missing " + missing, NoSuchElementException.class, () -> x.terms(missing));
         }

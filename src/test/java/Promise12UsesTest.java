@@ -6,7 +6,7 @@ public final class Promise12UsesTest {
     }
 
     private static void countsConstraints() {
-        ConstraintCompiler x = Checks.withInputs(1, 2, 3);
+        Subject x = Checks.withInputs(1, 2, 3);
         x.expression(Checks.TIMES, 0, 0, 0);
         x.expression(Checks.SHARE, 0, 1, 0);
         x.claim(Checks.EQUAL, 0, 0);
@@ -24,7 +24,7 @@ public final class Promise12UsesTest {
     }
 
     private static void wrongArguments() {
-        ConstraintCompiler x = Checks.withInputs(1);
+        Subject x = Checks.withInputs(1);
         for (int wrong : new int[] {-1, 60, Integer.MIN_VALUE, Integer.MAX_VALUE}) {
             Checks.refused("uses of " + wrong, IllegalArgumentException.class, () -> x.uses(wrong));
         }

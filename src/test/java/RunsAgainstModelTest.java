@@ -1,18 +1,16 @@
 import java.util.Arrays;
 import java.util.Random;
-import java.util.function.IntSupplier;
 
 /** Long runs of calls, the same each time, of which every answer must be the model's. */
 public final class RunsAgainstModelTest {
     private static final int RUNS = 1500;
-    private static final int CALLS = 512;
     private static final String[] NAMES = {
         "expression", "claim", "give", "solve", "value", "tamper",
         "broken", "first", "coefficient", "terms", "uses", "count"
     };
 
     private final Random random;
-    private final ConstraintCompiler x = new ConstraintCompiler();
+    private final Subject x = new Subject();
     private final Model model = new Model();
     private final int[] weights = new int[NAMES.length];
     private final int[] kindWeights = new int[10];
@@ -40,11 +38,11 @@ public final class RunsAgainstModelTest {
     }
 
     private void run(int seed) {
-        for (int i = 0; i < CALLS; i++) {
+        for (int i = 0; x.callsLeft() > 0; i++) {
             int method = pick(weights);
             int[] p = arguments(method);
             String what = "run " + seed + ", call " + i + ": " + NAMES[method] + Arrays.toString(p);
-            Checks.due(what, answer(() -> ofProgram(method, p)), answer(() -> ofModel(method, p)));
+            Checks.due(what, x.answer(NAMES[method], p), modelAnswer(method, p));
         }
     }
 
@@ -58,9 +56,9 @@ public final class RunsAgainstModelTest {
         return i;
     }
 
-    private static Object answer(IntSupplier call) {
+    private Object modelAnswer(int method, int[] p) {
         try {
-            return call.getAsInt();
+            return ofModel(method, p);
         } catch (RuntimeException e) {
             return e.getClass();
         }
@@ -110,23 +108,6 @@ public final class RunsAgainstModelTest {
 
     private boolean chance(int oneIn) {
         return random.nextInt(oneIn) == 0;
-    }
-
-    private int ofProgram(int method, int[] p) {
-        return switch (NAMES[method]) {
-            case "expression" -> x.expression(p[0], p[1], p[2], p[3]);
-            case "claim" -> x.claim(p[0], p[1], p[2]);
-            case "give" -> x.give(p[0], p[1]);
-            case "solve" -> x.solve();
-            case "value" -> x.value(p[0]);
-            case "tamper" -> x.tamper(p[0], p[1]);
-            case "broken" -> x.broken();
-            case "first" -> x.first();
-            case "coefficient" -> x.coefficient(p[0], p[1], p[2]);
-            case "terms" -> x.terms(p[0]);
-            case "uses" -> x.uses(p[0]);
-            default -> x.count(p[0]);
-        };
     }
 
     private int ofModel(int method, int[] p) {
