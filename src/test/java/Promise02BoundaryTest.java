@@ -185,6 +185,23 @@ public final class Promise02BoundaryTest {
         Checks.due("value", x.value(1), 243 % 97);
     }
 
+    /** "each as for 4 of what there is and a": in this order, and one after the other. */
+    static void promise02EveryPowerIsMadeByProductsWithA() {
+        for (int b = 1; b <= 5; b++) {
+            Subject x = new Subject();
+            x.input(3);
+            x.not(0);
+            x.power(1, b);
+            Checks.due("counts", x.counts(), "[3, " + (b + 1) + ", " + (b - 1) + ", 1, 0, 0]");
+            for (int i = 0; i < b - 1; i++) {
+                Checks.due("what there is, in A of " + i, x.coefficient(i, 0, i + 1), i == 0 ? 96 : 1);
+                Checks.due("the one in A of " + i, x.coefficient(i, 0, 0), i == 0 ? 1 : 0);
+                Checks.due("a, in B of " + i, x.row(i, 1, 2), "[1, 96]");
+                Checks.due("the product, in C of " + i, x.coefficient(i, 2, i + 2), 1);
+            }
+        }
+    }
+
     static void promise02Power6IsRefused() {
         Cases.refused(State.WITH_EXPRESSIONS, ARGUMENT, "expression", Checks.POWER, 0, 6, 0);
     }

@@ -1,3 +1,5 @@
+import java.util.Arrays;
+
 public final class Promise02ExpressionTest {
     private static final Class<IllegalArgumentException> ARGUMENT = IllegalArgumentException.class;
     private static final Class<IllegalStateException> STATE = IllegalStateException.class;
@@ -18,6 +20,7 @@ public final class Promise02ExpressionTest {
         not();
         powers();
         powerOfAConstant();
+        constraintsOfLongerSums();
         sumsKeepWhatTheyWere();
         wrongArguments();
         whatHasNoUseMayBeAnything();
@@ -244,6 +247,46 @@ public final class Promise02ExpressionTest {
         Checks.due("counts", x.counts(), "[2, 1, 0, 0, 0, 0]");
         x.solve();
         Checks.due("3 to the power 5", x.value(1), 49);
+    }
+
+    /** a is 2 x + 5, b is y - x, so that no sum of a constraint can be taken for another. */
+    private static void constraintsOfLongerSums() {
+        Subject x = Checks.withInputs(3, 4);
+        x.number(5);
+        x.plus(0, 0);
+        int a = x.plus(3, 2);
+        int b = x.minus(1, 0);
+        x.times(a, b);
+        x.share(a, b);
+        x.same(a, b);
+        x.either(a, b, b);
+        x.power(a, 4);
+        String sumA = "[5, 2, 0, 0, 0, 0, 0, 0, 0, 0, 0, 0]";
+        String sumB = "[0, 96, 1, 0, 0, 0, 0, 0, 0, 0, 0, 0]";
+        String difference = "[5, 3, 96, 0, 0, 0, 0, 0, 0, 0, 0, 0]";
+        Checks.rows(x, 0, sumA, sumB, only(3));
+        Checks.rows(x, 1, sumB, only(4), only(0));
+        Checks.rows(x, 2, sumA, only(4), only(5));
+        Checks.rows(x, 3, difference, only(6), "[1, 0, 0, 0, 0, 0, 0, 96, 0, 0, 0, 0]");
+        Checks.rows(x, 4, difference, only(7), only(-1));
+        Checks.rows(x, 5, sumB, difference, only(8));
+        Checks.rows(x, 6, sumA, sumA, only(9));
+        Checks.rows(x, 7, only(9), sumA, only(10));
+        Checks.rows(x, 8, only(10), sumA, only(11));
+        Checks.due("solve", x.solve(), 0);
+        int[] due = {3, 4, 5, 6, 11, 1, 11, 11, 0, 11, 91};
+        for (int i = 0; i < due.length; i++) {
+            Checks.due("value " + i, x.value(i), due[i]);
+        }
+    }
+
+    /** The row of a sum of 12 variables that has this one alone, or none. */
+    private static String only(int variable) {
+        int[] row = new int[12];
+        if (variable >= 0) {
+            row[variable] = 1;
+        }
+        return Arrays.toString(row);
     }
 
     private static void sumsKeepWhatTheyWere() {

@@ -25,7 +25,8 @@ public final class ReadmeTest {
     private static final String ARGUMENT = "(?:-?\\d+|" + NAME + ")";
     private static final Pattern CALL = Pattern.compile(
             "(?:int (?<name>" + NAME + ") = )?"
-                    + "x\\.(?<method>" + NAME + ")\\((?<arguments>(?:" + ARGUMENT + "(?:, " + ARGUMENT + ")*)?)\\);"
+                    + "x\\.(?<method>" + NAME + ")"
+                    + "\\((?<arguments>(?:" + ARGUMENT + "(?:, " + ARGUMENT + ")*)?)\\);"
                     + " +// (?:(?<answer>-?\\d+)|throws (?<thrown>\\w+))(?:: .+)?");
 
     private final Map<String, Integer> names = new HashMap<>();
